@@ -533,8 +533,9 @@ public final class StepPairs {
             return at ^ (at >> 1);
         }
 
+        /** What a number, -1 or more, leaves over. */
         private static int leftOver(int number, int by) {
-            return by > 0 ? Math.floorMod(number, by) : 0;
+            return by > 0 ? (number + by) % by : 0;
         }
     }
 
@@ -682,10 +683,6 @@ public final class StepPairs {
             return position >= 0 && position < length && position < PAD_LENGTH ? characters[position] : PAST_END;
         }
 
-        private boolean isHere(char least, char most) {
-            return here() >= least && here() <= most;
-        }
-
         boolean skip(char sign) {
             if (here() != sign) {
                 return false;
@@ -722,7 +719,7 @@ public final class StepPairs {
         }
 
         boolean readRun() {
-            if (!isHere('0', '3')) {
+            if (here() < '0' || here() > '3') {
                 return false;
             }
             pair = here() - '0';
@@ -738,7 +735,7 @@ public final class StepPairs {
                 return true;
             }
             int digits = 0;
-            while (digits < 3 && isHere('0', '9')) {
+            while (digits < 3 && here() >= '0' && here() <= '9') {
                 number = 10 * number + here() - '0';
                 position++;
                 digits++;
@@ -747,7 +744,7 @@ public final class StepPairs {
         }
 
         boolean readDigit() {
-            if (!isHere('1', '9')) {
+            if (here() < '1' || here() > '9') {
                 return false;
             }
             number = here() - '0';
@@ -763,7 +760,7 @@ public final class StepPairs {
         private Bits() {
         }
 
-        /** Of a normal number; 0 for 0.0. */
+        /** Of a normal number from -1.0 to 1.0, or of 0.0. */
         static long ofDouble(double number) {
             if (number == 0.0) {
                 return 0L;
@@ -774,16 +771,12 @@ public final class StepPairs {
                 size = size * 2.0;
                 exponent--;
             }
-            for (int i = 0; i < MOST_SCALINGS && size >= 2.0; i++) {
-                size = size / 2.0;
-                exponent++;
-            }
             long fraction = (long) ((size - 1.0) * 4503599627370496.0);
             long sign = number < 0.0 ? 1L : 0L;
             return (sign << 63) | (exponent << 52) | fraction;
         }
 
-        /** Of a normal number that is not below 0; 0 for 0.0. */
+        /** Of a normal number up to 1.0, or of 0.0. */
         static int ofFloat(float number) {
             if (number == 0.0f) {
                 return 0;
@@ -793,10 +786,6 @@ public final class StepPairs {
             for (int i = 0; i < MOST_SCALINGS && size < 1.0f; i++) {
                 size = size * 2.0f;
                 exponent--;
-            }
-            for (int i = 0; i < MOST_SCALINGS && size >= 2.0f; i++) {
-                size = size / 2.0f;
-                exponent++;
             }
             int fraction = (int) ((size - 1.0f) * 8388608.0f);
             return (exponent << 23) | fraction;

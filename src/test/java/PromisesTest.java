@@ -648,6 +648,7 @@ public final class PromisesTest {
         due("19 none more", x.undo(), NOT_POSSIBLE);
         due("19 none more", x.count(0), 2);
 
+        undoEach();
         StepPairs y = new StepPairs();
         y.set(FILTER, 3);
         y.feed(1, 0, 4);
@@ -689,6 +690,32 @@ public final class PromisesTest {
         put(y, "f1");
         y.wipe();
         due("19 no changes", y.count(16), 2);
+    }
+
+    private static void undoEach() {
+        StepPairs x = new StepPairs();
+        x.set(FILTER, 2);
+        x.turn(3);
+        x.feed(2, 1, 1);
+        x.save(0);
+        x.feed(0, 0, 2);
+        for (int change = 0; change < 6; change++) {
+            switch (change) {
+                case 0 -> due("19 set", x.set(FILTER, 5), 2);
+                case 1 -> due("19 feed", x.feed(3, 1, 3), 0);
+                case 2 -> due("19 turn", x.turn(-5), 999);
+                case 3 -> due("19 zero", x.zero(), 4);
+                case 4 -> due("19 restore", x.restore(0), 3);
+                default -> {
+                    put(x, "b5;n7;3*9");
+                    due("19 carryOut", x.carryOut(), 3);
+                }
+            }
+            due("19 undo of change " + change, x.undo(), 4);
+            counts("19 undo of change " + change, x, 0, 9, 4, 1, 0, 1, 4, 0, 0, 1, 9, 40, 1000, 2, 10, 1, 0, 4);
+            due("19 undo of change " + change, x.log(0, 2), 1);
+            due("19 undo of change " + change, x.speed(1), 3);
+        }
     }
 
     private static void save() {
