@@ -1,53 +1,10 @@
 /** At least one check for each promise of the document: ordinary inputs, the edges, wrong inputs. */
-public final class PromisesTest {
-    private static final int NO_SUCH = -1, BAD_VALUE = -2, BAD_TEXT = -3, TOO_MANY = -4, NOT_POSSIBLE = -5, NONE = -6;
-    private static final int TURN = 0, WRAP = 1, FILTER = 2, GATE = 3, INDEX = 4;
-
-    private static int wrong = 0;
-
-    private static void due(String what, long got, long want) {
-        if (got != want) {
-            wrong++;
-            System.out.println(what + ": answered " + got + ", due is " + want);
-        }
-    }
-
-    /** The numbers of count() from a first one on, side by side. */
-    private static void counts(String what, StepPairs x, int first, int... wanted) {
-        for (int i = 0; i < wanted.length; i++) {
-            due(what + ", count(" + (first + i) + ")", x.count(first + i), wanted[i]);
-        }
-    }
-
-    private static int put(StepPairs x, String text) {
-        int length = x.count(15);
-        for (int from = 0; from < text.length(); from += 8) {
-            long characters = 0;
-            for (int i = from; i < Math.min(from + 8, text.length()); i++) {
-                characters = characters << 8 | text.charAt(i);
-            }
-            length = x.put(characters);
-        }
-        return length;
-    }
-
-    private static int faultOf(String text) {
-        StepPairs x = new StepPairs();
-        put(x, text);
-        return x.fault();
-    }
-
+public final class PromisesTest extends Checks {
     private static StepPairs after(String text) {
         StepPairs x = new StepPairs();
         put(x, text);
         x.carryOut();
         return x;
-    }
-
-    private static void feedOften(StepPairs x, int pair, int ticks) {
-        for (int left = ticks; left > 0; left -= 99) {
-            x.feed(pair, 0, Math.min(left, 99));
-        }
     }
 
     public static void main(String[] args) {
@@ -74,10 +31,7 @@ public final class PromisesTest {
         undo();
         save();
         restore();
-        System.out.println(wrong == 0 ? "PromisesTest: all answers are as due" : "PromisesTest: " + wrong + " are not");
-        if (wrong != 0) {
-            System.exit(1);
-        }
+        end("PromisesTest");
     }
 
     private static void newObject() {
@@ -402,9 +356,13 @@ public final class PromisesTest {
             y.turn(steps % 3 == 0 ? -1 : 1);
             due("10 share", y.noise(), Float.floatToIntBits(1.0f / (float) (1 + steps)));
         }
-        for (int illegal = 2; illegal < 200; illegal++) {
-            y.feed(3 - y.count(3), 0, 1);
-            due("10 share", y.noise(), Float.floatToIntBits((float) illegal / (float) (99 + illegal)));
+        StepPairs z = new StepPairs();
+        z.turn(99);
+        int seen = 2;
+        for (int illegal = 1; illegal < 200; illegal++) {
+            seen = 3 - seen;
+            z.feed(seen, 0, 1);
+            due("10 share", z.noise(), Float.floatToIntBits((float) illegal / (float) (99 + illegal)));
         }
     }
 
