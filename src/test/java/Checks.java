@@ -78,6 +78,15 @@ abstract class Checks {
         return number;
     }
 
+    /** A row of characters, again and again, up to a length. */
+    static String filled(String row, int length) {
+        StringBuilder text = new StringBuilder();
+        while (text.length() < length) {
+            text.append(row);
+        }
+        return text.substring(0, length);
+    }
+
     static int put(StepPairs x, String text) {
         int length = x.count(15);
         for (int from = 0; from < text.length(); from += 8) {

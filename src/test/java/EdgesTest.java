@@ -8,6 +8,7 @@ public final class EdgesTest extends Checks {
         placeIsLeftOverByANewTurn();
         countIsLeftOverByANewWrap();
         setReturnsThePreviousValue();
+        setChangesASettingAlone();
         feedTakesItsWholeRange();
         feedReturnsTheStepsMade();
         feedGoesUpTo99999Ticks();
@@ -35,12 +36,64 @@ public final class EdgesTest extends Checks {
 
         undoHasAtMost6States();
         undoOfEachChange();
+        wholeLogComesBack();
         undoLeavesPadAndSlots();
         undoAndThenAnotherChange();
         saveKeepsTwoSlots();
         restoreBringsEverythingBack();
         restoreIsAChange();
         end("EdgesTest");
+    }
+
+    // ---- What there is to see of an object
+
+    /** What the calls that look can see, but for the pad and the history. */
+    private static String sight(StepPairs x) {
+        StringBuilder seen = new StringBuilder();
+        for (int what = 0; what <= 14; what++) {
+            seen.append(x.count(what)).append(' ');
+        }
+        for (int ago = 0; ago < 12; ago++) {
+            seen.append(x.log(ago, 0)).append(x.log(ago, 1)).append(x.log(ago, 2)).append(' ');
+        }
+        for (int number = 0; number < 4; number++) {
+            seen.append(x.would(number)).append(' ').append(x.deeds(number)).append(' ').append(x.replay(2, number)).append(' ');
+        }
+        return seen.append(x.speed(0)).append(' ').append(x.speed(1)).append(' ').append(x.rate()).append(' ').append(x.noise()).toString();
+    }
+
+    /** An illegal one with a slip, a step from place 0, and a pair that lasts a tick too short, all with the index 1. */
+    private static StepPairs busy() {
+        StepPairs x = with(TURN, 8, WRAP, 20, FILTER, 3, GATE, 7);
+        x.turn(13);
+        x.save(0);
+        x.turn(2);
+        x.feed(1, 1, 4);
+        x.feed(0, 1, 3);
+        x.feed(2, 1, 2);
+        return x;
+    }
+
+    /** As busy() in all that is hidden, but with count and place 0. */
+    private static StepPairs busyAt0() {
+        StepPairs x = with(TURN, 8, WRAP, 20, FILTER, 3, GATE, 7);
+        x.turn(-20);
+        x.feed(0, 1, 4);
+        x.feed(2, 1, 2);
+        return x;
+    }
+
+    /** What can't be seen at once: how long the latest pair lasted, whether the index was 1, when the latest step was. */
+    private static void goesOnAlike(String what, StepPairs x, StepPairs y) {
+        for (int filter = 9; filter >= 1; filter--) {
+            x.set(FILTER, filter);
+            y.set(FILTER, filter);
+            for (int pair = 0; pair <= 3; pair++) {
+                due(what + ", would(" + pair + ") with FILTER " + filter, x.would(pair), y.would(pair));
+            }
+        }
+        due(what + ", a step with the index", x.feed(2, 1, 1), y.feed(2, 1, 1));
+        due(what + ", and goes on", sight(x).equals(sight(y)) ? 0 : 1, 0);
     }
 
     // ---- Promise 1
@@ -139,6 +192,18 @@ public final class EdgesTest extends Checks {
         due("the same value again", x.set(INDEX, 1), 2);
         due("each of them is a change", x.count(16), 4);
         due("and no tick", x.count(0), 0);
+    }
+
+    private static void setChangesASettingAlone() {
+        sentence("set: Changes a setting");
+        int[][] others = {{40, 8}, {100, 20}, {9, 3}, {99, 7}, {0, 1}};
+        for (int setting = 0; setting < 5; setting++) {
+            StepPairs x = busy();
+            due("to another value", x.set(setting, others[setting][0]), others[setting][1]);
+            due("and back", x.set(setting, others[setting][1]), others[setting][0]);
+            due("all is as it was", sight(x).equals(sight(busy())) ? 0 : 1, 0);
+            goesOnAlike("setting " + setting + " set to another value and back", x, busy());
+        }
     }
 
     // ---- Promise 3
@@ -285,6 +350,13 @@ public final class EdgesTest extends Checks {
         due("the log stays", y.deeds(1), 2);
         due("the next step has a period", y.feed(2, 0, 1), 1);
         due("the next step has a period", y.speed(1), 1);
+        StepPairs z = busyAt0();
+        due("nothing to do", z.zero(), 0);
+        due("all is as it was", sight(z).equals(sight(busyAt0())) ? 0 : 1, 0);
+        goesOnAlike("count and place alone", z, busyAt0());
+        StepPairs w = busy();
+        w.zero();
+        counts("slips and all else stay", w, 3, 0, 2, 15, 1, 1, 1);
     }
 
     // ---- Promise 6
@@ -304,14 +376,25 @@ public final class EdgesTest extends Checks {
         return tick % 3 != 0 ? 0 : new int[] {0, 1, 3, 2}[along];
     }
 
+    private static StepPairs withRows(int ticks) {
+        StepPairs x = new StepPairs();
+        for (int tick = 0; tick < ticks; tick += 3) {
+            x.feed(rowOf(tick, 0), rowOf(tick, 1), 3);
+        }
+        return x;
+    }
+
+    private static void hasRows(String what, StepPairs x, int ticks, int part) {
+        for (int ago = 0; ago < 200; ago++) {
+            due(what + ", " + ago + " ago", x.log(ago, part), rowOf(ticks - 1 - ago, part));
+        }
+    }
+
     private static void logGoesRound() {
         sentence("log: ago: 0 for the latest one; NO_SUCH if there is no such tick");
         for (int ticks : new int[] {0, 3, 198, 201, 399, 402, 600}) {
             for (int what = 0; what <= 2; what++) {
-                StepPairs x = new StepPairs();
-                for (int tick = 0; tick < ticks; tick += 3) {
-                    x.feed(rowOf(tick, 0), rowOf(tick, 1), 3);
-                }
+                StepPairs x = withRows(ticks);
                 int logged = Math.min(ticks, 200);
                 due("ticks in the log of " + ticks, x.count(9), logged);
                 for (int ago = 0; ago < logged; ago++) {
@@ -432,6 +515,13 @@ public final class EdgesTest extends Checks {
             y.feed(3 - y.count(3), 0, 1);
             due(illegal + " of " + (illegal + 1), y.noise(), Float.floatToIntBits((float) illegal / (float) (illegal + 1)));
         }
+        StepPairs w = new StepPairs();
+        for (int i = 0; i < 10; i++) {
+            carryOut(w, filled("3,0,", 79));
+            due("all are illegal", w.noise(), 0x3F800000);
+        }
+        w.turn(40);
+        due("more than the log has", w.noise(), Float.floatToIntBits(400.0f / 440.0f));
         StepPairs z = after(99792);
         z.feed(3 - z.count(3), 0, 9);
         due("1 of 11089", z.noise(), Float.floatToIntBits(1.0f / 11089.0f));
@@ -661,31 +751,6 @@ public final class EdgesTest extends Checks {
         }
     }
 
-    /** What undo has to bring back: what the calls that look can see. */
-    private static String sight(StepPairs x) {
-        StringBuilder seen = new StringBuilder();
-        for (int what = 0; what <= 14; what++) {
-            seen.append(x.count(what)).append(' ');
-        }
-        for (int ago = 0; ago < 12; ago++) {
-            seen.append(x.log(ago, 0)).append(x.log(ago, 1)).append(x.log(ago, 2)).append(' ');
-        }
-        for (int number = 0; number < 4; number++) {
-            seen.append(x.would(number)).append(' ').append(x.deeds(number)).append(' ').append(x.replay(2, number)).append(' ');
-        }
-        return seen.append(x.speed(0)).append(' ').append(x.speed(1)).append(' ').append(x.rate()).append(' ').append(x.noise()).toString();
-    }
-
-    private static StepPairs busy() {
-        StepPairs x = with(TURN, 8, WRAP, 20, FILTER, 3, GATE, 7);
-        x.turn(13);
-        x.save(0);
-        x.turn(2);
-        x.feed(3 - x.count(3), 1, 4);
-        x.feed(x.count(3) ^ 1, 1, 2);
-        return x;
-    }
-
     private static void undoOfEachChange() {
         sentence("undo: everything except the pad, the slots and the history is as it was before it");
         undoOf("set of TURN", x -> x.set(TURN, 4));
@@ -695,8 +760,9 @@ public final class EdgesTest extends Checks {
         undoOf("set of INDEX", x -> x.set(INDEX, 0));
         undoOf("set to what it is", x -> x.set(INDEX, 1));
         undoOf("feed", x -> x.feed(0, 0, 99));
-        undoOf("feed of a tick", x -> x.feed(x.log(0, 0), 0, 1));
-        undoOf("turn", x -> x.turn(99));
+        undoOf("feed with the index", x -> x.feed(3, 1, 99));
+        undoOf("feed of a tick", x -> x.feed(2, 0, 1));
+        undoOf("turn", x -> x.turn(98));
         undoOf("turn backwards", x -> x.turn(-1));
         undoOf("zero", x -> x.zero());
         undoOf("carryOut", x -> carryOut(x, "f9;n1;b2;3i*9,0;z;1*99"));
@@ -713,17 +779,30 @@ public final class EdgesTest extends Checks {
         due(what + " with a full history", x.count(16), 6);
         due(what + " undone", x.undo(), 5);
         due(what + " undone: " + sight(x) + " was " + before, sight(x).equals(before) ? 0 : 1, 0);
-        StepPairs y = busy();
-        for (int filter = 9; filter >= 1; filter--) {
-            x.set(FILTER, filter);
-            y.set(FILTER, filter);
-            due(what + " undone, how long the pair lasted", x.would(x.log(0, 0)), y.would(y.log(0, 0)));
+        goesOnAlike(what + " undone", x, busy());
+    }
+
+    private static void wholeLogComesBack() {
+        sentence("undo, restore: everything is as it was (all 200 ticks of the log)");
+        for (int ticks : new int[] {201, 399, 402}) {
+            for (int part = 0; part <= 2; part++) {
+                StepPairs x = withRows(ticks);
+                x.turn(99);
+                x.turn(99);
+                x.turn(99);
+                x.undo();
+                x.undo();
+                x.undo();
+                hasRows("undone, " + ticks + " ticks", x, ticks, part);
+                StepPairs y = withRows(ticks);
+                y.save(0);
+                y.turn(-99);
+                y.turn(-99);
+                y.turn(-99);
+                y.restore(0);
+                hasRows("restored, " + ticks + " ticks", y, ticks, part);
+            }
         }
-        x.turn(1);
-        y.turn(1);
-        x.feed(0, 1, 1);
-        y.feed(0, 1, 1);
-        due(what + " undone, it goes on", sight(x).equals(sight(y)) ? 0 : 1, 0);
     }
 
     private static void undoLeavesPadAndSlots() {
@@ -813,22 +892,21 @@ public final class EdgesTest extends Checks {
         x.turn(99);
         x.feed(0, 0, 99);
         for (int time = 0; time < 2; time++) {
-            due("the count then", x.restore(1), 15);
+            due("the count then", x.restore(1), 14);
             due("everything, time " + time + ": " + sight(x) + " was " + before, sight(x).equals(before) ? 0 : 1, 0);
             counts("but not the pad and the history", x, 15, 4, 6);
             x.feed(3, 1, 50);
         }
         due("the other slot has what it had", x.restore(0), 13);
-        due("and the slot itself is kept", x.restore(1), 15);
+        due("and the slot itself is kept", x.restore(1), 14);
         StepPairs y = saved();
-        y.turn(5);
+        y.turn(6);
         y.restore(1);
+        goesOnAlike("restored", y, saved());
         StepPairs z = saved();
-        y.set(FILTER, 4);
-        z.set(FILTER, 4);
-        y.feed(y.log(0, 0), 1, 2);
-        z.feed(z.log(0, 0), 1, 2);
-        due("it goes on with its run and its index", sight(y).equals(sight(z)) ? 0 : 1, 0);
+        z.restore(0);
+        z.restore(1);
+        goesOnAlike("restored behind the other slot", z, saved());
     }
 
     private static void restoreIsAChange() {

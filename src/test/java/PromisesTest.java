@@ -524,7 +524,8 @@ public final class PromisesTest extends Checks {
             due("17 too early " + text, faultOf(text), text.length());
         }
         // A '!' in front of the character at which the fault is.
-        String[] marked = {"!F1", "f0!0", "f100!0", "b0!1", "!4", "!i", "!*", "!,", "!;", "0!0", "0i!i", "0*!i", "0*1!i", "0*0!0", "0*0!1", "0*999!9", "0*100!0",
+        String[] marked = {"!F1", "f0!0", "f100!0", "b0!1", "!4", "!i", "!*", "!,", "!;", "0!0", "0i!i", "0*!i", "0*1!i",
+            "0*0!0", "0*0!1", "0*999!9", "0*100!0",
             "0,!,", "0,!;", "0,!f1", "0;!;", "0;!,", "f!z", "f!-1", "f12!z", "f1!,2", "b!i", "n!0",
             "n1!1", "n!;", "z!z", "z!,0", "z!1", "!Z", "0!4", "0*1!*1", "z;!x", "0*5,3i*7;n!x;0", "!~", "!g", "!a", "0!j"};
         for (String text : marked) {

@@ -33,7 +33,8 @@ public final class RefusalsTest extends Checks {
         x.save(0);
         x.turn(-2);
         x.set(FILTER, 3);
-        x.feed(0, 1, 2);
+        x.feed(0, 1, 3);
+        x.feed(1, 1, 2);
         put(x, "f1;x");
         return x;
     }
@@ -110,7 +111,7 @@ public final class RefusalsTest extends Checks {
                 seen.add((long) x.would(pair));
             }
         }
-        seen.add((long) x.feed(x.count(3), 1, 1));
+        seen.add((long) x.feed(x.count(3) ^ 1, 1, 1));
         seen.addAll(sight(x));
         seen.add((long) x.turn(1));
         seen.add((long) x.carryOut());
@@ -260,8 +261,8 @@ public final class RefusalsTest extends Checks {
         refuses(RefusalsTest::busy, BAD_VALUE, badValues());
         refuses(RefusalsTest::busy, BAD_VALUE, badParts());
         refuses(RefusalsTest::busy, NO_SUCH, badTicks());
-        refuses(RefusalsTest::busy, NO_SUCH, one("log(9, 0)", x -> x.log(9, 0)));
-        refuses(RefusalsTest::busy, NO_SUCH, one("log(9, 3)", x -> x.log(9, 3)));
+        refuses(RefusalsTest::busy, NO_SUCH, one("log(12, 0)", x -> x.log(12, 0)));
+        refuses(RefusalsTest::busy, NO_SUCH, one("log(12, 3)", x -> x.log(12, 3)));
         refuses(RefusalsTest::busy, BAD_TEXT, one("carryOut() of a fault", x -> x.carryOut()));
         refuses(RefusalsTest::busy, NOT_POSSIBLE, one("restore(1), where nothing was saved", x -> x.restore(1)));
     }

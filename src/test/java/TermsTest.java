@@ -480,6 +480,7 @@ public final class TermsTest extends Checks {
     private static void periodNeedsTwoStepsOfOneWay() {
         sentence("Speed: if both went the same way; otherwise there is none");
         StepPairs x = new StepPairs();
+        x.feed(0, 0, 5);
         due("no step", x.speed(1), NONE);
         x.feed(1, 0, 2);
         due("one step", x.speed(1), NONE);
@@ -494,6 +495,7 @@ public final class TermsTest extends Checks {
         x.feed(1, 0, 1);
         due("forwards twice", x.speed(1), 1);
         StepPairs y = new StepPairs();
+        y.feed(0, 0, 5);
         y.feed(2, 0, 3);
         due("one step backwards", y.speed(1), NONE);
     }

@@ -42,14 +42,6 @@ public final class TextsTest extends Checks {
         end("TextsTest");
     }
 
-    private static String filled(String row, int length) {
-        StringBuilder text = new StringBuilder();
-        while (text.length() < length) {
-            text.append(row);
-        }
-        return text.substring(0, length);
-    }
-
     // ---- Texts
 
     private static void faultIsTheFirstCharacterThatCannotStand() {
