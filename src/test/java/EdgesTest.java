@@ -474,6 +474,9 @@ public final class EdgesTest extends Checks {
         x.feed(3 - x.count(3), 0, 9);
         due("an illegal one changes nothing", x.rate(), Double.doubleToLongBits(-1.0 / 400.0));
         for (int turn = 4; turn <= 400; turn += 4) {
+            StepPairs z = with(TURN, turn);
+            z.turn(2);
+            due("a period of 1, TURN " + turn, z.rate(), Double.doubleToLongBits(1.0 / (double) turn));
             StepPairs y = with(TURN, turn);
             y.feed(2, 0, 3);
             y.feed(3, 0, 1);
