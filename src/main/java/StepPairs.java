@@ -731,7 +731,8 @@ public final class StepPairs {
 
         boolean readNumber() {
             number = 0;
-            if (skip('0')) {
+            if (here() == '0') {
+                position++;
                 return true;
             }
             int digits = 0;
